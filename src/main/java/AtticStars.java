@@ -46,7 +46,7 @@ public final class AtticStars {
         if (!within(kind, 0, KINDS - 1) || !isBearing(faces) || !within(width, 1, WIDEST)) {
             return BAD;
         }
-        return now.atticCount >= ATTICS ? FULL : now.addAttic(kind, faces, width);
+        return now.addAttic(kind, faces, width);
     }
 
     public int told(int attic, int what) {
@@ -334,10 +334,7 @@ public final class AtticStars {
     public int text() {
         Text read = tape.readText();
         tape.length = 0;
-        if (read == null) {
-            return -100 - tape.begin;
-        }
-        return now.textCount >= TEXTS ? FULL : now.addText(read);
+        return read == null ? -100 - tape.begin : now.addText(read);
     }
 
     public int textTold(int text, int what) {
@@ -692,7 +689,9 @@ public final class AtticStars {
             prayed = other.prayed;
             hour = other.hour;
             z = other.z;
-            System.arraycopy(other.texts, 0, texts, 0, TEXTS);
+            for (int i = 0; i < TEXTS; i++) {
+                texts[i] = other.texts[i];
+            }
             textCount = other.textCount;
             System.arraycopy(other.counting, 0, counting, 0, KEYS);
         }

@@ -148,6 +148,8 @@ public final class AtticsTest {
         AtticStars x = oneOfEach();
         due.is("turns", x.turns(0, 4), 0);
         due.is("turns", x.turns(0, 4), 4);
+        due.is("turns", x.turns(3, 0), 3);
+        due.is("a plain one", x.told(3, 0), 0);
         due.is("turned", x.told(0, 0), 4);
         due.is("as dormer", x.as(0, 2), 0);
         due.is("wide", x.told(0, 5), 12);

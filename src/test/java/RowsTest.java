@@ -128,6 +128,7 @@ public final class RowsTest {
             x.hours(50);
             x.deal(3);
             x.turns(0, 4 - x.told(0, 0));
+            for (int what = 1; what <= 4; what++) x.set(what, what, x.told(what, what) == 5 ? 6 : 5);
             x.rule(0, 1);
             x.rule(1, 2);
             x.rule(2, 3);
@@ -153,9 +154,12 @@ public final class RowsTest {
         AtticStars y = new AtticStars();
         due.is("an empty town", y.keep(), 0);
         y.deal(8);
+        y.set(0, 3, 4);
+        y.set(0, 4, 5);
         due.is("an empty town", y.back(), 0);
         due.is("a new attic is new", y.attic(0, 0, 1), 0);
         due.is("its coin", y.told(0, 3), 0);
+        due.is("what it owes", y.told(0, 4), 0);
     }
 
     private static void whatAnImageLeaves() {

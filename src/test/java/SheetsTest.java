@@ -31,8 +31,10 @@ public final class SheetsTest {
         due.is("sheet", x.sheet(3, 1, 0), 0);
         due.is("all 0", at(x, 0, 23), 0);
         due.is("no more", at(x, 0, 24), INDEX);
+        x.mark(0, 0, 8);
         x.mark(0, 5, 9);
         due.is("anew", x.sheet(0, 0, 10), 10);
+        due.is("all 0 again", at(x, 0, 0), 0);
         due.is("all 0 again", at(x, 0, 5), 0);
         due.is("shorter", at(x, 0, 10), INDEX);
         due.is("missing", x.sheet(0, -1, 77), 0);

@@ -8,6 +8,7 @@ public final class TextsTest {
         values();
         faults();
         depths();
+        afterFaults();
         blanks();
         numbering();
         laws();
@@ -110,6 +111,12 @@ public final class TextsTest {
         fault("  wants p", 2);
         fault("wantp", 0);
         fault("Want p", 0);
+        fault("vant p", 0);
+        fault("xee 1", 0);
+        fault("feez 1", 0);
+        fault("fe 1", 0);
+        fault("fine z", 5);
+        fault("fine pz", 5);
         fault("1", 0);
         fault("want1", 4);
         fault("want t", 5);
@@ -174,6 +181,22 @@ public final class TextsTest {
         due.is("open till its piece ends", Due.law(x, "fee !!!!(1)+!!!!(!!!!2)*!!!!!3"), 5);
         due.is("ends with )", Due.law(x, "fee !!!!!!!!(0)&!!!!!!!!(0)"), 6);
         fault("fee !!!!!!!!(!0)", 13);
+    }
+
+    /** What a fault leaves open is not open in the next text. */
+    private static void afterFaults() {
+        AtticStars x = new AtticStars();
+        due.is("left open", Due.law(x, "fee ((((((((1"), -113);
+        due.is("not open", Due.law(x, "fee ((((((((1))))))))"), 0);
+        due.is("left open", Due.law(x, "fee !!!!!!!!"), -112);
+        due.is("not open", Due.law(x, "fee !!!!!!!!1"), 1);
+        due.is("ends with a word", Due.law(x, "fee 1+fee"), -106);
+        due.is("no word is ahead", Due.law(x, "fee 1+2"), 2);
+        due.is("it has", x.textTold(2, 1), 2);
+        due.is("it gives", x.fee(), 3);
+        due.is("stuck at the end", Due.law(x, "fee 1+2t"), -107);
+        due.is("no word is ahead", Due.law(x, "fee 4"), 3);
+        due.is("it gives", x.fee(), 4);
     }
 
     private static void blanks() {
