@@ -372,7 +372,7 @@ final class TextBounds {
         b.run("feed 0 0 0 = 12; feed MIN MAX -1 = 24; trim 1 = 1; feed 0 0 0 = 13; 6x feed 0 0 0; feed 0 0 0 = FULL; trim 84; "
             + "feed 1 2 3 = 96");
         b.run(feed(0x66656520, 0x31FF2020, 0x20202020) + " = 12; text = -105; "
-            + "" + feed(0x66656520, 0x312B80FF, 0) + "; text = -106; "
+            + feed(0x66656520, 0x312B80FF, 0) + "; text = -106; "
             + feed(-1, -1, -1) + "; text = -100; " + feed(0x66656520, 0x31202020, 0x202020A0) + "; text = -111");
         b.run("write 'fee 1+'; " + feed(0x32202020, 0x20202020, 0x202B2033) + " = 18; text = 0; fee = 6");
         b.about("Promise 26", "FULL: it would have more than 96.");
