@@ -19,6 +19,7 @@ public final class LanguageTest {
         words(source);
         lengths(source);
         face();
+        written(source);
         inside();
         due.end("LanguageTest");
     }
@@ -69,6 +70,34 @@ public final class LanguageTest {
         for (Field field : AtticStars.class.getDeclaredFields()) {
             due.holds("seen from outside: " + field, Modifier.isPrivate(field.getModifiers()) != constants.contains(field.getName()));
         }
+    }
+
+    /** The document's lines as they stand there, the names of what is given, too, each under its head. */
+    private static void written(String source) throws IOException {
+        String document = Files.readString(Path.of("../shared/DOC.md"));
+        Matcher lines = Pattern.compile("\n    (public .*);").matcher(document);
+        int found = 0;
+        for (; lines.find(); found++) {
+            due.holds("not in the source: " + lines.group(1), source.contains("\n    " + lines.group(1)));
+        }
+        due.is("lines of the document's face", found, 45);
+        Matcher heads = Pattern.compile("Ahead of the calls (.*) the interface says: (---- .*)\\.").matcher(document);
+        int from = 0;
+        int under = 0;
+        while (heads.find()) {
+            from = after(source, "\n    // " + heads.group(2) + "\n", from);
+            for (String call : heads.group(1).split(", ")) {
+                from = after(source, "\n    public int " + call.replace("`", "") + "(", from);
+                under++;
+            }
+        }
+        due.is("calls under heads", under, 43);
+    }
+
+    private static int after(String source, String words, int from) {
+        int at = source.indexOf(words, from);
+        due.holds("not in its place:" + words, at >= 0);
+        return Math.max(at, from);
     }
 
     private static void inside() {
